@@ -183,7 +183,6 @@ public final class WordGuest {
 
         void empty() {
             Arrays.fill(words, 0);
-            Arrays.fill(told, 0);
             toldCount = 0;
         }
 

@@ -284,7 +284,15 @@ public final class InstructionsTest {
         three(072002, 0x8000, 0, -15, C, 0xFFFF, 0, N);
         three(072002, 0x8000, 0, -16, 0, 0xFFFF, 0, N | C);
         three(072002, 0x5555, 0, 2, V, 0x5554, 0, C);
+        three(072002, 0x8000, 0, 0, C, 0x8000, 0, N);
         three(072102, 7, 3, 2, 0, 7, 12, 0);
+        WordGuest x = new WordGuest();
+        x.poke(0, 072022);
+        x.poke(500, 3);
+        x.put(0, 1);
+        x.put(2, 500);
+        CHECK.same("moved by a word of memory", x.run(1), 0);
+        CHECK.registers("moved by a word of memory", x, 8, 0, 502);
     }
 
     private static void eitherOf() {
@@ -305,6 +313,12 @@ public final class InstructionsTest {
         CHECK.same("either with 0", x.run(1), 0);
         CHECK.same("either with 0: flags", x.flags(), 0);
         CHECK.same("either with 0: written", x.word(500), 0x10);
+        Check.pokeAll(x, 6, 074322);
+        x.put(3, 0x0080);
+        x.poke(500, 0);
+        CHECK.same("either behind a register that grows", x.run(1), 0);
+        CHECK.registers("either behind a register that grows", x, 0, 0, 502, 0x0080);
+        CHECK.same("either is of words", x.flags(), 0);
     }
 
     private static void down(int r, int before, int k, int after, int place) {
