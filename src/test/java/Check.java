@@ -6,12 +6,33 @@ final class Check {
 
     private int wrong = 0;
     private int looked = 0;
+    private int sentences = 0;
+    private int lookedBefore = 0;
+    private String sentence = "";
+
+    /**
+     * What follows is the test of this sentence, which the section or promise holds in these very
+     * words; a sentence under which nothing is looked at counts as failed.
+     */
+    void sentence(String section, String words) {
+        endSentence();
+        sentences++;
+        lookedBefore = looked;
+        sentence = section + ": \"" + words + "\": ";
+    }
+
+    private void endSentence() {
+        if (sentences > 0 && looked == lookedBefore) {
+            wrong++;
+            System.out.println(sentence + "nothing was looked at");
+        }
+    }
 
     void same(String what, long got, long due) {
         looked++;
         if (got != due) {
             wrong++;
-            System.out.println(what + " answered " + got + ", due is " + due);
+            System.out.println(sentence + what + " answered " + got + ", due is " + due);
         }
     }
 
@@ -31,7 +52,7 @@ final class Check {
             got = e.getClass().getName();
         }
         wrong++;
-        System.out.println(what + " threw " + got + ", due is " + due.getName());
+        System.out.println(sentence + what + " threw " + got + ", due is " + due.getName());
     }
 
     void throwsIndex(String what, Call call) {
@@ -50,7 +71,8 @@ final class Check {
 
     /** Ends the test; a test that looked at nothing counts as failed. */
     void end() {
-        System.out.println(looked + " answers, " + wrong + " not as due");
+        endSentence();
+        System.out.println(sentences + " sentences, " + looked + " answers, " + wrong + " not as due");
         if (wrong != 0 || looked == 0) {
             System.exit(1);
         }

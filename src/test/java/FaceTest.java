@@ -9,13 +9,22 @@ import java.util.TreeSet;
 /** The class has the document's face and no member more that others could see. */
 public final class FaceTest {
     private static final Set<String> METHODS = new TreeSet<>(Arrays.asList(
-            "int load(int,int,int,int,int,int)", "int word(int)", "boolean poke(int,int)",
-            "int register(int)", "void put(int,int)", "int flags()", "void flag(int)", "int run(int)",
-            "int steps()", "int output(int)", "int outputs()", "void clear()"));
+            "int load(int,int,int,int,int,int) throws java.lang.IndexOutOfBoundsException",
+            "int word(int) throws java.lang.IndexOutOfBoundsException",
+            "boolean poke(int,int) throws java.lang.IndexOutOfBoundsException",
+            "int register(int) throws java.lang.IndexOutOfBoundsException",
+            "void put(int,int) throws java.lang.IndexOutOfBoundsException",
+            "int flags()", "void flag(int)",
+            "int run(int) throws java.lang.IllegalArgumentException",
+            "int steps()",
+            "int output(int) throws java.lang.IndexOutOfBoundsException",
+            "int outputs()", "void clear()"));
 
     public static void main(String[] args) {
         Check check = new Check();
+        check.sentence("The public face", "public static final int NONE = -1;");
         check.same("NONE", WordGuest.NONE, -1);
+        check.sentence("The public face", "public final class WordGuest");
         check.same("class is public and final",
                 Modifier.isPublic(WordGuest.class.getModifiers()) && Modifier.isFinal(WordGuest.class.getModifiers()), true);
         Set<String> seen = new TreeSet<>();
@@ -51,6 +60,10 @@ public final class FaceTest {
         for (Class<?> p : m.getParameterTypes()) {
             text.append(text.charAt(text.length() - 1) == '(' ? "" : ",").append(p.getName());
         }
-        return text.append(')').toString();
+        text.append(')');
+        for (Class<?> e : m.getExceptionTypes()) {
+            text.append(" throws ").append(e.getName());
+        }
+        return text.toString();
     }
 }
