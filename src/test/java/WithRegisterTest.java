@@ -25,6 +25,7 @@ public final class WithRegisterTest {
         movedByLowestSixBits();
         movedOfEachRegister();
         either();
+        registerThatGrowsToo();
         countDown();
         countDownDistance();
         countDownOfEachRegister();
@@ -358,6 +359,19 @@ public final class WithRegisterTest {
         new Scene(CHECK, "with PLACE").code(100, code(EITHER, 7, 2)).register(2, 1).thenRegister(2, 103).thenFlags(0).done(102);
         new Scene(CHECK, "into PLACE").code(100, code(EITHER, 2, 7)).register(2, 1).thenFlags(0).done(103);
         new Scene(CHECK, "at an odd place").code(100, code(EITHER, 2, 013)).register(3, 501).faulty(Scene.ODD);
+    }
+
+    /** The document leaves open when r is read; here it is read behind the operand, as it is then. */
+    private static void registerThatGrowsToo() {
+        CHECK.sentence(SECTION, "070, 071, 072, 074 then r (three bits) and six bits s (074: d)");
+        new Scene(CHECK, "product").code(100, code(PRODUCT, 3, 023)).register(3, 500).words(500, 3)
+                .thenRegister(3, 3 * 502).thenFlags(0).done(102);
+        new Scene(CHECK, "quotient").code(100, code(QUOTIENT, 2, 023)).register(2, 0).register(3, 500).words(500, 100)
+                .thenRegister(2, 5).thenRegister(3, 2).thenFlags(0).done(102);
+        new Scene(CHECK, "moved").code(100, code(MOVED, 3, 043)).register(3, 502).words(500, 1)
+                .thenRegister(3, 1000).thenFlags(0).done(102);
+        new Scene(CHECK, "either").code(100, code(EITHER, 3, 023)).register(3, 512).words(512, 0x0F00)
+                .thenWords(512, 0x0F00 ^ 514).thenRegister(3, 514).thenFlags(0).done(102);
     }
 
     private static void countDown() {
