@@ -36,6 +36,7 @@ public final class PromisesTest {
         outputRefuses();
         outputs();
         clear();
+        throwsWhatIsNamed();
         noSuchPlaceRegisterOutput();
         throwingChangesNothing();
         upTo512Calls();
@@ -453,6 +454,37 @@ public final class PromisesTest {
             CHECK.same(what + ": output(1)", x.output(1), twin.output(1));
             for (int place = from; place < Math.min(from + 2 * PART, 4096); place += 2) {
                 CHECK.same(what + ": word", x.word(place), twin.word(place));
+            }
+        }
+    }
+
+    /** Throws if and only if it is due, and then no other exception. */
+    private static void throwsIf(boolean isDue, String what, Class<? extends RuntimeException> due, Check.Call call) {
+        if (isDue) {
+            CHECK.throwing(what, due, call);
+        } else {
+            call.make();
+            CHECK.same(what, true, true);
+        }
+    }
+
+    private static void throwsWhatIsNamed() {
+        CHECK.sentence("The methods", "Methods throw what their comments name, the one named first when several would do.");
+        Class<IndexOutOfBoundsException> index = IndexOutOfBoundsException.class;
+        for (int bit = 0; bit < 32; bit++) {
+            for (int beside = -2; beside <= 2; beside++) {
+                int v = (1 << bit) + beside;
+                WordGuest x = busy();
+                boolean noWord = v < 0 || v > 4095 || v % 2 != 0;
+                boolean noRegister = v < 0 || v > 7;
+                throwsIf(noWord, "load(" + v + ")", index, () -> x.load(v, v, v, v, v, v));
+                throwsIf(noWord, "word(" + v + ")", index, () -> x.word(v));
+                throwsIf(noWord, "poke(" + v + ")", index, () -> x.poke(v, v));
+                throwsIf(noRegister, "register(" + v + ")", index, () -> x.register(v));
+                throwsIf(noRegister, "put(" + v + ")", index, () -> x.put(v, v));
+                throwsIf(v < 0 || v > 1, "output(" + v + ")", index, () -> x.output(v));
+                throwsIf(false, "flag(" + v + ")", index, () -> x.flag(v));
+                throwsIf(v < 0 || v > 5000, "run(" + v + ")", IllegalArgumentException.class, () -> x.run(v));
             }
         }
     }

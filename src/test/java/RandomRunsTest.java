@@ -1,6 +1,6 @@
 import java.util.Random;
 
-/** Runs of codes by a fixed seed: the program against the oracle. */
+/** Every code, and runs of codes, in machines by a fixed seed: the program against the oracle. */
 public final class RandomRunsTest {
     private static final Check CHECK = new Check();
     private static final Random DICE = new Random(20261115);
@@ -9,7 +9,10 @@ public final class RandomRunsTest {
 
     public static void main(String[] args) {
         for (int i = 0; i < 60000; i++) {
-            one(i);
+            runs(i);
+        }
+        for (int code = 0; code < 65536; code++) {
+            single(code);
         }
         for (int ending = 0; ending < 5; ending++) {
             CHECK.same("ending " + ending + " was seen", ENDINGS[ending] > 100, true);
@@ -52,9 +55,7 @@ public final class RandomRunsTest {
         x.load(place, pairs[0], pairs[1], pairs[2], pairs[3], pairs[4]);
     }
 
-    private static void one(int i) {
-        WordGuest x = new WordGuest();
-        Oracle o = new Oracle();
+    private static void fill(WordGuest x, Oracle o) {
         for (int k = 0; k < 15; k++) {
             load(x, o, 20 * k);
         }
@@ -67,12 +68,27 @@ public final class RandomRunsTest {
         int flags = DICE.nextInt(16);
         x.flag(flags);
         o.flag(flags);
+    }
+
+    private static void runs(int i) {
+        WordGuest x = new WordGuest();
+        Oracle o = new Oracle();
+        fill(x, o);
         for (int part = 0; part < 3; part++) {
             int most = part == 2 ? 40 : 1;
             int due = o.run(most);
             ENDINGS[due]++;
             compare("case " + i + ", part " + part, x, o, x.run(most), due);
         }
+    }
+
+    private static void single(int code) {
+        WordGuest x = new WordGuest();
+        Oracle o = new Oracle();
+        fill(x, o);
+        x.poke(o.r[7], code);
+        o.poke(o.r[7], code);
+        compare("code " + Check.octal(code), x, o, x.run(1), o.run(1));
     }
 
     private static void compare(String what, WordGuest x, Oracle o, int got, int due) {
